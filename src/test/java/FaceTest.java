@@ -1,0 +1,107 @@
+import java.io.IOException;
+import java.lang.reflect.Constructor;
+import java.lang.reflect.Field;
+import java.lang.reflect.Method;
+import java.lang.reflect.Modifier;
+import java.nio.file.Files;
+import java.nio.file.Path;
+import java.util.ArrayList;
+import java.util.Arrays;
+import java.util.Collections;
+import java.util.List;
+import java.util.TreeSet;
+import java.util.regex.Pattern;
+
+/** The face that the document shows, and some of the words that LANGUAGE.md rules out. */
+public final class FaceTest {
+    private static final Path PROGRAM = Path.of("src", "main", "java", "Certhold.java");
+    private static final Path DOCUMENT = Path.of("..", "shared", "DOC.md");
+
+    private static final String[] RULED_OUT = {
+        "->", "::", "\\bcatch\\b", "\\bfinally\\b", "\\btry\\b", "\\bsynchronized\\b",
+        "\\bassert\\b", "Exact\\(", "\\bjava\\.(?!util\\.NoSuchElementException;)", "\\bSystem\\b",
+        "\\bRandom\\b", "\\bThread\\b", "\\bObject\\b", "\\bClass\\b", "\"\\s*\\+", "\\+\\s*\"",
+        "\\.getMessage", "hashCode", "\\bequals\\b", "toString", "\\bpackage\\b",
+        "catch \\((Exception|Throwable|Error|RuntimeException)",
+    };
+
+    public static void main(String[] arguments) throws IOException {
+        face();
+        nothingElse();
+        words();
+        Calls.end();
+    }
+
+    /** The lines of the document's face, without the spaces, in the order of the alphabet. */
+    private static void face() throws IOException {
+        List<String> wants = new ArrayList<>();
+        for (String line : Files.readAllLines(DOCUMENT)) {
+            if (line.startsWith("    public ") && line.endsWith(";")) {
+                String head = line.trim().replaceAll(";$", "");
+                wants.add(head.replaceAll("(int|boolean) \\w+([,)])", "$1$2"));
+            }
+        }
+        List<String> got = new ArrayList<>();
+        for (Constructor<?> each : Certhold.class.getConstructors()) {
+            got.add(Modifier.toString(each.getModifiers()) + " Certhold("
+                    + names(each.getParameterTypes()) + ")" + thrown(each.getExceptionTypes()));
+        }
+        for (Method each : Certhold.class.getDeclaredMethods()) {
+            if (!Modifier.isPrivate(each.getModifiers())) {
+                got.add(Modifier.toString(each.getModifiers()) + " " + each.getReturnType() + " "
+                        + each.getName() + "(" + names(each.getParameterTypes()) + ")"
+                        + thrown(each.getExceptionTypes()));
+            }
+        }
+        Collections.sort(wants);
+        Collections.sort(got);
+        Calls.same("number of public members", 40, wants.size());
+        Calls.same("the face", String.join("\n", wants), String.join("\n", got));
+    }
+
+    private static String names(Class<?>[] types) {
+        return String.join(", ", Arrays.stream(types).map(Class::getSimpleName).toList());
+    }
+
+    private static String thrown(Class<?>[] types) {
+        return types.length == 0 ? "" : " throws " + names(types);
+    }
+
+    private static void nothingElse() {
+        Calls.same("modifiers of the class", "public final",
+                Modifier.toString(Certhold.class.getModifiers()));
+        TreeSet<String> faceNames = new TreeSet<>();
+        for (Method each : Certhold.class.getDeclaredMethods()) {
+            if (Modifier.isPublic(each.getModifiers())) {
+                faceNames.add(each.getName());
+            }
+        }
+        for (Field each : Certhold.class.getDeclaredFields()) {
+            Calls.same("field " + each.getName() + " is private", true,
+                    Modifier.isPrivate(each.getModifiers()));
+        }
+        List<Class<?>> types = new ArrayList<>(List.of(Certhold.class.getDeclaredClasses()));
+        types.add(Certhold.class);
+        Calls.same("at most twelve classes", true, types.size() <= 12);
+        for (Class<?> type : types) {
+            for (Method each : type.getDeclaredMethods()) {
+                boolean isOfFace = type == Certhold.class && Modifier.isPublic(each.getModifiers());
+                Calls.same(type + "." + each.getName() + " bears no public name", true,
+                        isOfFace || !faceNames.contains(each.getName()));
+            }
+            for (Field each : type.getDeclaredFields()) {
+                Calls.same("field " + each.getName() + " is final if it is static", true,
+                        !Modifier.isStatic(each.getModifiers())
+                                || Modifier.isFinal(each.getModifiers()));
+            }
+        }
+    }
+
+    private static void words() throws IOException {
+        String code = Files.readString(PROGRAM).replaceAll("(?s)/\\*.*?\\*/", "")
+                .replaceAll("//[^\n]*", "");
+        for (String each : RULED_OUT) {
+            Calls.same("the program has " + each, false, Pattern.compile(each).matcher(code).find());
+        }
+    }
+}
