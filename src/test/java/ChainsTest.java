@@ -11,6 +11,7 @@ public final class ChainsTest {
         bestHasLowerNumbers();
         loops();
         rootsInTheMiddle();
+        eachCallByItself();
         Calls.end();
     }
 
@@ -250,5 +251,28 @@ public final class ChainsTest {
         chains(hall, 0, 0, 2, 0);
         hall.trust(1, false);
         chains(hall, 3, 0, 1, 3, 0);
+    }
+
+    /** No call is helped by what another one has found before it. */
+    private static void eachCallByItself() {
+        Certhold hall = new Certhold();
+        hall.makeRoot(1, 10, 5);
+        hall.trust(0, true);
+        hall.issue(0, 1, 5);
+        for (String asked : new String[] {"goodChains", "goodChainsByWalks"}) {
+            Calls.due(1, hall, "chainSize", 0, 0);
+            Calls.due(0, hall, asked, 1, 5);
+            Calls.due(1, hall, "chainAt", 1, 0, 0);
+            Calls.due(1, hall, asked, 0, 9);
+            Calls.due(Calls.INDEX, hall, "chainAt", 1, 7, 0);
+            Calls.due(1, hall, asked, 1, 4);
+        }
+        // A search leaves the walk alone.
+        hall.begin(1, 0);
+        hall.goodChains(0, 0);
+        hall.chainSize(0, 0);
+        hall.meanChain();
+        Calls.due(1, hall, "reached");
+        Calls.due('o', hall, "step", 0);
     }
 }

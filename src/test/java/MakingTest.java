@@ -134,6 +134,7 @@ public final class MakingTest {
         Calls.due(Calls.NO_SUCH, hall, "cross", -1, 0, 1, 1);
         Calls.due(Calls.NO_SUCH, hall, "cross", 0, -1, 1, 1);
         Calls.due(Calls.ARGUMENT, hall, "cross", 3, 3, 0, 1);
+        Calls.due(Calls.ARGUMENT, hall, "cross", 3, 3, 1, 6);
         Calls.due(Calls.ARGUMENT, hall, "cross", 1, 2, 1000, 1);
         Calls.due(Calls.ARGUMENT, hall, "cross", 1, 2, 1, 6);
         Calls.due(Calls.ARGUMENT, hall, "cross", 1, 2, 1, -1);
@@ -182,6 +183,8 @@ public final class MakingTest {
         Calls.due(40, hall, "certificates");
         Calls.due(Calls.STATE, hall, "makeRoot", 1, 9, 5);
         Calls.due(Calls.ARGUMENT, hall, "makeRoot", 0, 9, 5);
+        Calls.due(Calls.ARGUMENT, hall, "makeRoot", 1, 0, 5);
+        Calls.due(Calls.ARGUMENT, hall, "makeRoot", 1, 9, 6);
         Calls.due(Calls.STATE, hall, "issue", 0, 1, 9);
         Calls.due(Calls.NO_SUCH, hall, "issue", 40, 1, 9);
         Calls.due(Calls.ARGUMENT, hall, "issue", 0, 0, 9);

@@ -59,6 +59,7 @@ public final class RevokingTest {
             Calls.due(true, hall, way, 3, 7);
             Calls.due(true, hall, way, 3, Integer.MAX_VALUE);
             Calls.due(false, hall, way, 2, 6);
+            Calls.due(false, hall, way, 0, 6);
             Calls.due(Calls.NO_SUCH, hall, way, 6, -1);
             Calls.due(Calls.NO_SUCH, hall, way, -1, 0);
             Calls.due(Calls.ARGUMENT, hall, way, 3, -1);
