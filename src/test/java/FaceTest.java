@@ -17,12 +17,12 @@ public final class FaceTest {
     private static final Path PROGRAM = Path.of("src", "main", "java", "Certhold.java");
     private static final Path DOCUMENT = Path.of("..", "shared", "DOC.md");
 
+    // LANGUAGE.md leaves a few of these in narrow forms; the program does without them.
     private static final String[] RULED_OUT = {
         "->", "::", "\\bcatch\\b", "\\bfinally\\b", "\\btry\\b", "\\bsynchronized\\b",
         "\\bassert\\b", "Exact\\(", "\\bjava\\.(?!util\\.NoSuchElementException;)", "\\bSystem\\b",
         "\\bRandom\\b", "\\bThread\\b", "\\bObject\\b", "\\bClass\\b", "\"\\s*\\+", "\\+\\s*\"",
         "\\.getMessage", "hashCode", "\\bequals\\b", "toString", "\\bpackage\\b",
-        "catch \\((Exception|Throwable|Error|RuntimeException)",
     };
 
     public static void main(String[] arguments) throws IOException {
@@ -32,7 +32,7 @@ public final class FaceTest {
         Calls.end();
     }
 
-    /** The lines of the document's face, without the spaces, in the order of the alphabet. */
+    /** The lines of the document's face, without the names of the parameters, sorted. */
     private static void face() throws IOException {
         List<String> wants = new ArrayList<>();
         for (String line : Files.readAllLines(DOCUMENT)) {
