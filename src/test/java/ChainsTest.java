@@ -15,18 +15,6 @@ public final class ChainsTest {
         Calls.end();
     }
 
-    /** Asks for the best chain and for the number of good chains, in both ways. */
-    private static void chains(Certhold hall, int first, int day, int good, int... best) {
-        Calls.due(good, hall, "goodChains", first, day);
-        Calls.due(good, hall, "goodChainsByWalks", first, day);
-        Calls.due(best.length, hall, "chainSize", first, day);
-        for (int index = 0; index < best.length; index++) {
-            Calls.due(best[index], hall, "chainAt", first, day, index);
-        }
-        Calls.due(Calls.INDEX, hall, "chainAt", first, day, best.length);
-        Calls.due(Calls.INDEX, hall, "chainAt", first, day, -1);
-    }
-
     private static void arguments() {
         Certhold hall = new Certhold();
         hall.makeRoot(1, 10, 0);
@@ -51,14 +39,14 @@ public final class ChainsTest {
         hall.makeRoot(1, 10, 0);
         hall.issueAuthority(0, 1, 10, 0);
         hall.issue(0, 2, 10);
-        chains(hall, 0, 0, 0);
-        chains(hall, 2, 0, 0);
+        Calls.chains(hall, 0, 0, 0);
+        Calls.chains(hall, 2, 0, 0);
         hall.trust(0, true);
-        chains(hall, 0, 0, 1, 0);
-        chains(hall, 1, 0, 1, 1, 0);
-        chains(hall, 2, 0, 1, 2, 0);
+        Calls.chains(hall, 0, 0, 1, 0);
+        Calls.chains(hall, 1, 0, 1, 1, 0);
+        Calls.chains(hall, 2, 0, 1, 2, 0);
         hall.trust(0, false);
-        chains(hall, 1, 0, 0);
+        Calls.chains(hall, 1, 0, 0);
     }
 
     private static void validity() {
@@ -69,22 +57,22 @@ public final class ChainsTest {
         hall.issueAuthority(0, 1, 4, 5);
         hall.pass(1);
         hall.issue(1, 1, 5);
-        chains(hall, 0, 0, 1, 0);
-        chains(hall, 0, 9, 1, 0);
-        chains(hall, 0, 10, 0);
-        chains(hall, 1, 1, 0);
-        chains(hall, 1, 2, 1, 1, 0);
-        chains(hall, 1, 5, 1, 1, 0);
-        chains(hall, 1, 6, 0);
+        Calls.chains(hall, 0, 0, 1, 0);
+        Calls.chains(hall, 0, 9, 1, 0);
+        Calls.chains(hall, 0, 10, 0);
+        Calls.chains(hall, 1, 1, 0);
+        Calls.chains(hall, 1, 2, 1, 1, 0);
+        Calls.chains(hall, 1, 5, 1, 1, 0);
+        Calls.chains(hall, 1, 6, 0);
         // The first certificate and those behind it are judged alike.
-        chains(hall, 2, 2, 0);
-        chains(hall, 2, 3, 1, 2, 1, 0);
-        chains(hall, 2, 5, 1, 2, 1, 0);
-        chains(hall, 2, 6, 0);
+        Calls.chains(hall, 2, 2, 0);
+        Calls.chains(hall, 2, 3, 1, 2, 1, 0);
+        Calls.chains(hall, 2, 5, 1, 2, 1, 0);
+        Calls.chains(hall, 2, 6, 0);
         hall.pass(6);
         hall.issueAuthority(0, 1, 99, 5);
-        chains(hall, 3, 9, 1, 3, 0);
-        chains(hall, 3, 10, 0);
+        Calls.chains(hall, 3, 9, 1, 3, 0);
+        Calls.chains(hall, 3, 10, 0);
     }
 
     private static void revocation() {
@@ -95,21 +83,21 @@ public final class ChainsTest {
         hall.issue(1, 1, 100);
         hall.issue(1, 2, 100);
         hall.revoke(2);
-        chains(hall, 2, 0, 1, 2, 1, 0);
+        Calls.chains(hall, 2, 0, 1, 2, 1, 0);
         hall.pass(5);
         hall.publish(1);
-        chains(hall, 2, 4, 1, 2, 1, 0);
-        chains(hall, 2, 5, 0);
-        chains(hall, 2, 6, 0);
-        chains(hall, 3, 6, 1, 3, 1, 0);
+        Calls.chains(hall, 2, 4, 1, 2, 1, 0);
+        Calls.chains(hall, 2, 5, 0);
+        Calls.chains(hall, 2, 6, 0);
+        Calls.chains(hall, 3, 6, 1, 3, 1, 0);
         hall.revoke(1);
         hall.pass(5);
         hall.publish(0);
-        chains(hall, 3, 9, 1, 3, 1, 0);
-        chains(hall, 3, 10, 0);
-        chains(hall, 2, 4, 1, 2, 1, 0);
-        chains(hall, 1, 10, 0);
-        chains(hall, 0, 10, 1, 0);
+        Calls.chains(hall, 3, 9, 1, 3, 1, 0);
+        Calls.chains(hall, 3, 10, 0);
+        Calls.chains(hall, 2, 4, 1, 2, 1, 0);
+        Calls.chains(hall, 1, 10, 0);
+        Calls.chains(hall, 0, 10, 1, 0);
     }
 
     private static void lengths() {
@@ -121,21 +109,21 @@ public final class ChainsTest {
             hall.issueAuthority(4 - length, 1, 10, length);
         }
         hall.issue(5, 1, 10);
-        chains(hall, 6, 0, 1, 6, 5, 4, 3, 2, 1, 0);
+        Calls.chains(hall, 6, 0, 1, 6, 5, 4, 3, 2, 1, 0);
         // One more is too many for the root, and for each of them.
         hall.issueAuthority(5, 1, 10, 0);
-        chains(hall, 7, 0, 1, 7, 5, 4, 3, 2, 1, 0);
+        Calls.chains(hall, 7, 0, 1, 7, 5, 4, 3, 2, 1, 0);
         hall.issue(7, 1, 10);
-        chains(hall, 8, 0, 0);
+        Calls.chains(hall, 8, 0, 0);
         // The length of the first one is not asked for.
         Certhold other = new Certhold();
         other.makeRoot(1, 10, 1);
         other.trust(0, true);
         other.issueAuthority(0, 1, 10, 0);
         other.issueAuthority(1, 1, 10, 0);
-        chains(other, 2, 0, 1, 2, 1, 0);
+        Calls.chains(other, 2, 0, 1, 2, 1, 0);
         other.issue(2, 1, 10);
-        chains(other, 3, 0, 0);
+        Calls.chains(other, 3, 0, 0);
     }
 
     private static void names() {
@@ -153,14 +141,14 @@ public final class ChainsTest {
         hall.issue(0, 123, 10);
         hall.issueAuthority(0, 2, 10, 5);
         hall.issue(8, 11, 10);
-        chains(hall, 2, 0, 1, 2, 1, 0);
-        chains(hall, 3, 0, 0);
-        chains(hall, 4, 0, 0);
-        chains(hall, 5, 0, 0);
-        chains(hall, 6, 0, 0);
-        chains(hall, 7, 0, 1, 7, 0);
+        Calls.chains(hall, 2, 0, 1, 2, 1, 0);
+        Calls.chains(hall, 3, 0, 0);
+        Calls.chains(hall, 4, 0, 0);
+        Calls.chains(hall, 5, 0, 0);
+        Calls.chains(hall, 6, 0, 0);
+        Calls.chains(hall, 7, 0, 1, 7, 0);
         // The root permits no 2, wherever it stands before it.
-        chains(hall, 9, 0, 0);
+        Calls.chains(hall, 9, 0, 0);
         ownNames();
     }
 
@@ -170,12 +158,12 @@ public final class ChainsTest {
         hall.makeRoot(1, 10, 5);
         hall.setNames(0, 2, 1);
         hall.trust(0, true);
-        chains(hall, 0, 0, 1, 0);
+        Calls.chains(hall, 0, 0, 1, 0);
         hall.issueAuthority(0, 2, 10, 5);
         hall.setNames(1, 22, 2);
-        chains(hall, 1, 0, 1, 1, 0);
+        Calls.chains(hall, 1, 0, 1, 1, 0);
         hall.issue(1, 22, 10);
-        chains(hall, 2, 0, 0);
+        Calls.chains(hall, 2, 0, 0);
     }
 
     private static void bestIsShortest() {
@@ -187,12 +175,12 @@ public final class ChainsTest {
         hall.makeRoot(2, 10, 5);
         hall.cross(4, 2, 10, 5);
         hall.trust(0, true);
-        chains(hall, 3, 0, 1, 3, 2, 1, 0);
+        Calls.chains(hall, 3, 0, 1, 3, 2, 1, 0);
         hall.trust(4, true);
-        chains(hall, 3, 0, 2, 3, 5, 4);
+        Calls.chains(hall, 3, 0, 2, 3, 5, 4);
         hall.revoke(5);
         hall.publish(4);
-        chains(hall, 3, 0, 1, 3, 2, 1, 0);
+        Calls.chains(hall, 3, 0, 1, 3, 2, 1, 0);
     }
 
     private static void bestHasLowerNumbers() {
@@ -208,11 +196,11 @@ public final class ChainsTest {
         hall.trust(1, true);
         hall.trust(2, true);
         // 3, 4 and 5 stand first where they differ; the roots behind them come after.
-        chains(hall, 6, 0, 3, 6, 3, 2);
+        Calls.chains(hall, 6, 0, 3, 6, 3, 2);
         hall.trust(2, false);
-        chains(hall, 6, 0, 2, 6, 4, 1);
+        Calls.chains(hall, 6, 0, 2, 6, 4, 1);
         hall.trust(1, false);
-        chains(hall, 6, 0, 1, 6, 5, 0);
+        Calls.chains(hall, 6, 0, 1, 6, 5, 0);
     }
 
     private static void loops() {
@@ -227,13 +215,13 @@ public final class ChainsTest {
         hall.issue(2, 111, 10);
         hall.trust(0, true);
         // 6 2 0 and 6 4 5 2 0.
-        chains(hall, 6, 0, 2, 6, 2, 0);
+        Calls.chains(hall, 6, 0, 2, 6, 2, 0);
         hall.trust(1, true);
         // 6 4 3 1 as well; from 2, the way 2 0 alone.
-        chains(hall, 6, 0, 3, 6, 2, 0);
-        chains(hall, 2, 0, 1, 2, 0);
+        Calls.chains(hall, 6, 0, 3, 6, 2, 0);
+        Calls.chains(hall, 2, 0, 1, 2, 0);
         // 4 3 1 and 4 5 2 0.
-        chains(hall, 4, 0, 2, 4, 3, 1);
+        Calls.chains(hall, 4, 0, 2, 4, 3, 1);
     }
 
     private static void rootsInTheMiddle() {
@@ -244,13 +232,13 @@ public final class ChainsTest {
         hall.issue(0, 11, 10);
         hall.trust(1, true);
         // Through the root that is not trusted, or past it.
-        chains(hall, 3, 0, 2, 3, 2, 1);
-        chains(hall, 0, 0, 1, 0, 2, 1);
+        Calls.chains(hall, 3, 0, 2, 3, 2, 1);
+        Calls.chains(hall, 0, 0, 1, 0, 2, 1);
         hall.trust(0, true);
-        chains(hall, 3, 0, 3, 3, 0);
-        chains(hall, 0, 0, 2, 0);
+        Calls.chains(hall, 3, 0, 3, 3, 0);
+        Calls.chains(hall, 0, 0, 2, 0);
         hall.trust(1, false);
-        chains(hall, 3, 0, 1, 3, 0);
+        Calls.chains(hall, 3, 0, 1, 3, 0);
     }
 
     /** No call is helped by what another one has found before it. */

@@ -7,8 +7,13 @@ public final class LogTest {
 
     public static void main(String[] arguments) {
         smallLog();
+        oneEntry();
+        twoEntries();
+        powersOfTwo();
+        greatestEntry();
+        endOfThePart();
         wrongSizes();
-        fullLog();
+        allSizes();
         Calls.end();
     }
 
@@ -48,9 +53,99 @@ public final class LogTest {
         Calls.due(122075997L, hall, "rootOf", 5);
     }
 
+    private static long joined(long first, long second) {
+        return (1009L * first + 9176L * second + 31L) % MODULUS;
+    }
+
+    /** "the hash of the entry if there is one", "none if the size is 1", "or has nothing". */
+    private static void oneEntry() {
+        Certhold hall = roots(1);
+        long entry = 8191L + 127L + 65537L + 11L;
+        Calls.due(entry, hall, "rootOf", 1);
+        Calls.due(entry, hall, "rootByJoining", 1);
+        Calls.due(entry, hall, "rootByProof", 0, 1);
+        Calls.due(0, hall, "proofSize", 0, 1);
+        Calls.due(Calls.INDEX, hall, "proofAt", 0, 1, 0);
+        Calls.due(0, hall, "growthSize", 1, 1);
+        Calls.due(Calls.INDEX, hall, "growthAt", 1, 1, 0);
+        // A log that has grown keeps the roots of its smaller sizes.
+        hall.makeRoot(1, 1, 0);
+        Calls.due(entry, hall, "rootOf", 1);
+        Calls.due(entry, hall, "rootByProof", 0, 1);
+    }
+
+    private static void twoEntries() {
+        Certhold hall = roots(2);
+        long first = 8191L + 127L + 65537L + 11L;
+        long second = 131L + 8191L + 2 * 127L + 2 * 65537L + 11L;
+        Calls.due(joined(first, second), hall, "rootOf", 2);
+        Calls.due(joined(first, second), hall, "rootByJoining", 2);
+        Calls.due(second, hall, "proofAt", 0, 2, 0);
+        Calls.due(first, hall, "proofAt", 1, 2, 0);
+        Calls.due(second, hall, "growthAt", 1, 2, 0);
+        for (int part = 0; part < 2; part++) {
+            Calls.due(1, hall, "proofSize", part, 2);
+            Calls.due(joined(first, second), hall, "rootByProof", part, 2);
+        }
+        Calls.due(1, hall, "growthSize", 1, 2);
+        Calls.due(0, hall, "growthSize", 2, 2);
+    }
+
+    /** "the greatest power of 2 that is less than their number": half of a power of 2 itself. */
+    private static void powersOfTwo() {
+        Certhold hall = fullHall();
+        for (int half = 1; half <= 16; half *= 2) {
+            // The other part of the proof of the last entry is the first half's root.
+            int height = Integer.numberOfTrailingZeros(half);
+            Calls.due(height + 1, hall, "proofSize", 2 * half - 1, 2 * half);
+            Calls.due(hall.rootOf(half), hall, "proofAt", 2 * half - 1, 2 * half, height);
+            // One entry more stands alone behind it.
+            Calls.due(1, hall, "proofSize", 2 * half, 2 * half + 1);
+            Calls.due(hall.rootOf(2 * half), hall, "proofAt", 2 * half, 2 * half + 1, 0);
+            Calls.due(1, hall, "growthSize", half, 2 * half);
+            Calls.due(1, hall, "growthSize", 2 * half, 2 * half + 1);
+        }
+    }
+
+    /** The greatest name in the last of 40 entries, with the greatest keys. */
+    private static void greatestEntry() {
+        Certhold hall = roots(39);
+        hall.makeRoot(9999, 1, 0);
+        long entry = 131L * 39 + 8191L * 9999 + 127L * 40 + 65537L * 40 + 11L;
+        // The log of 40 ends with 8 entries, and the last of them is a neighbour's proof.
+        Calls.due(entry, hall, "proofAt", 38, 40, 0);
+        Calls.due(4, hall, "proofSize", 38, 40);
+        Calls.due(6, hall, "proofSize", 0, 40);
+        Calls.due(hall.rootOf(40), hall, "rootByProof", 39, 40);
+    }
+
+    /** "If the smaller size is the end of the part", "if the smaller size is not beyond ...". */
+    private static void endOfThePart() {
+        Certhold hall = roots(7);
+        long[] entries = new long[7];
+        for (int i = 0; i < 7; i++) {
+            entries[i] = 131L * i + 8191L + 127L * (i + 1) + 65537L * (i + 1) + 11L;
+        }
+        long four = hall.rootOf(4);
+        long lastThree = joined(joined(entries[4], entries[5]), entries[6]);
+        // It is the end of the first part, which begins with the first entry: nothing of its own.
+        growthIs(hall, 4, lastThree);
+        // The end of a part that does not: its root alone, then what stands beside the way.
+        growthIs(hall, 5, entries[4], entries[5], entries[6], four);
+        growthIs(hall, 6, joined(entries[4], entries[5]), entries[6], four);
+        growthIs(hall, 3, entries[2], entries[3], joined(entries[0], entries[1]), lastThree);
+        growthIs(hall, 2, joined(entries[2], entries[3]), lastThree);
+        growthIs(hall, 1, entries[1], joined(entries[2], entries[3]), lastThree);
+        growthIs(hall, 7);
+    }
+
+    private static void growthIs(Certhold hall, int smaller, Long... wants) {
+        row(hall, "growth", List.of(wants), smaller, 7);
+    }
+
     private static void wrongSizes() {
-        Certhold hall = new Certhold();
         for (int entries = 0; entries < 3; entries++) {
+            Certhold hall = roots(entries);
             int[] wrong = {0, -1, entries + 1, 41, Integer.MIN_VALUE, Integer.MAX_VALUE};
             for (int size : wrong) {
                 Calls.due(Calls.ARGUMENT, hall, "rootOf", size);
@@ -61,8 +156,8 @@ public final class LogTest {
                 Calls.due(Calls.ARGUMENT, hall, "growthSize", 0, size);
                 Calls.due(Calls.ARGUMENT, hall, "growthAt", 1, size, 0);
             }
-            hall.makeRoot(1, 1, 0);
         }
+        Certhold hall = roots(3);
         int[] entries = {-1, 2, 3, Integer.MIN_VALUE, Integer.MAX_VALUE};
         for (int entry : entries) {
             Calls.due(Calls.INDEX, hall, "proofSize", entry, 2);
@@ -83,8 +178,38 @@ public final class LogTest {
         Calls.due(Calls.INDEX, hall, "growthAt", 3, 3, 0);
     }
 
-    private static void fullLog() {
+    private static Certhold roots(int number) {
+        Certhold hall = new Certhold();
+        for (int made = 0; made < number; made++) {
+            hall.makeRoot(1, 1, 0);
+        }
+        return hall;
+    }
+
+    /** Every size that a log can have, every entry in it and every smaller size. */
+    private static void allSizes() {
         List<Long> entries = new ArrayList<>();
+        Certhold made = fullHall();
+        for (int number = 0; number < 40; number++) {
+            entries.add((131L * number + 8191L * made.nameOf(number) + 127L * made.keyOf(number)
+                    + 65537L * made.issuerKeyOf(number) + 11L) % MODULUS);
+        }
+        for (int size = 1; size <= 40; size++) {
+            List<Long> log = entries.subList(0, size);
+            long root = root(log);
+            Certhold hall = fullHall();
+            Calls.due(root, hall, "rootOf", size);
+            Calls.due(root, hall, "rootByJoining", size);
+            for (int part = 0; part < size; part++) {
+                Certhold each = fullHall();
+                row(each, "proof", proof(log, part), part, size);
+                Calls.due(root, each, "rootByProof", part, size);
+                row(each, "growth", growth(log, part + 1, true), part + 1, size);
+            }
+        }
+    }
+
+    private static Certhold fullHall() {
         Certhold hall = new Certhold();
         for (int number = 0; number < 40; number++) {
             int name = 1111 + number % 7 * 111 + number / 20;
@@ -93,22 +218,8 @@ public final class LogTest {
             } else {
                 hall.issueAuthority(number - 1, name, 9, 5);
             }
-            entries.add((131L * number + 8191L * name + 127L * hall.keyOf(number)
-                    + 65537L * hall.issuerKeyOf(number) + 11L) % MODULUS);
         }
-        for (int size = 1; size <= 40; size++) {
-            List<Long> log = entries.subList(0, size);
-            Calls.due(root(log), hall, "rootOf", size);
-            Calls.due(root(log), hall, "rootByJoining", size);
-            for (int entry = 0; entry < size; entry++) {
-                List<Long> proof = proof(log, entry);
-                row(hall, "proof", proof, entry, size);
-                Calls.due(root(log), hall, "rootByProof", entry, size);
-            }
-            for (int smaller = 1; smaller <= size; smaller++) {
-                row(hall, "growth", growth(log, smaller, true), smaller, size);
-            }
-        }
+        return hall;
     }
 
     private static void row(Certhold hall, String kind, List<Long> wants, int part, int size) {

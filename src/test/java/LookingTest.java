@@ -70,35 +70,25 @@ public final class LookingTest {
         hall.makeRoot(1, 10, 0);
         hall.issue(0, 1, 10);
         // The other root has the same name, but not the same key.
-        row(hall, 2, 0);
+        Calls.candidates(hall, 2, 0);
         hall.cross(1, 0, 10, 0);
-        row(hall, 2, 0, 3);
-        row(hall, 0, 3);
-        row(hall, 1);
-        row(hall, 3, 1);
+        Calls.candidates(hall, 2, 0, 3);
+        Calls.candidates(hall, 0, 3);
+        Calls.candidates(hall, 1);
+        Calls.candidates(hall, 3, 1);
         hall.issueAuthority(1, 2, 10, 0);
         hall.cross(4, 0, 10, 0);
-        row(hall, 2, 0, 3, 5);
-        row(hall, 0, 3, 5);
-        row(hall, 5, 4);
+        Calls.candidates(hall, 2, 0, 3, 5);
+        Calls.candidates(hall, 0, 3, 5);
+        Calls.candidates(hall, 5, 4);
         // Neither time nor revocation takes a candidate away.
         hall.revoke(3);
         hall.publish(1);
         hall.pass(999);
-        row(hall, 2, 0, 3, 5);
+        Calls.candidates(hall, 2, 0, 3, 5);
         hall.issue(3, 11, 1);
-        row(hall, 6, 0, 3, 5);
+        Calls.candidates(hall, 6, 0, 3, 5);
         Calls.due(Calls.NO_SUCH, hall, "candidateAt", 7, -1);
         Calls.due(Calls.NO_SUCH, hall, "candidateAt", -1, 0);
-    }
-
-    private static void row(Certhold hall, int certificate, int... wants) {
-        Calls.due(wants.length, hall, "candidates", certificate);
-        for (int rank = 0; rank < wants.length; rank++) {
-            Calls.due(wants[rank], hall, "candidateAt", certificate, rank);
-        }
-        for (int rank : new int[] {-1, wants.length, Integer.MIN_VALUE, Integer.MAX_VALUE}) {
-            Calls.due(Calls.INDEX, hall, "candidateAt", certificate, rank);
-        }
     }
 }

@@ -12,12 +12,6 @@ public final class WalksTest {
         Calls.end();
     }
 
-    private static void at(Certhold hall, int reached, int walked, boolean isThrough) {
-        Calls.due(reached, hall, "reached");
-        Calls.due(walked, hall, "walked");
-        Calls.due(isThrough, hall, "isThrough");
-    }
-
     private static void begin() {
         Certhold hall = new Certhold();
         Calls.due(Calls.NO_SUCH, hall, "begin", 0, -1);
@@ -34,19 +28,19 @@ public final class WalksTest {
         Calls.due(0, hall, "walked");
         Calls.due(Calls.STATE, hall, "reached");
         Calls.due('o', hall, "begin", 1, 14);
-        at(hall, 1, 1, false);
+        Calls.walk(hall, 1, 1, false);
         // A walk that does not begin leaves the one that was begun.
         Calls.due('t', hall, "begin", 0, 10);
         Calls.due(Calls.ARGUMENT, hall, "begin", 0, -1);
         Calls.due(Calls.NO_SUCH, hall, "begin", 2, 0);
-        at(hall, 1, 1, false);
+        Calls.walk(hall, 1, 1, false);
         hall.revoke(1);
         hall.publish(0);
         Calls.due('r', hall, "begin", 1, 5);
         Calls.due('t', hall, "begin", 1, 4);
-        at(hall, 1, 1, false);
+        Calls.walk(hall, 1, 1, false);
         Calls.due('o', hall, "begin", 0, 5);
-        at(hall, 0, 1, false);
+        Calls.walk(hall, 0, 1, false);
     }
 
     private static void step() {
@@ -61,13 +55,13 @@ public final class WalksTest {
         Calls.due(Calls.INDEX, hall, "step", 1);
         Calls.due(Calls.INDEX, hall, "step", Integer.MAX_VALUE);
         Calls.due(Calls.INDEX, hall, "step", Integer.MIN_VALUE);
-        at(hall, 1, 1, false);
+        Calls.walk(hall, 1, 1, false);
         Calls.due('o', hall, "step", 0);
-        at(hall, 0, 2, false);
+        Calls.walk(hall, 0, 2, false);
         Calls.due(Calls.INDEX, hall, "step", 0);
         // In place of the walk that was begun.
         Calls.due('o', hall, "begin", 1, 0);
-        at(hall, 1, 1, false);
+        Calls.walk(hall, 1, 1, false);
     }
 
     private static void reasons() {
@@ -82,19 +76,19 @@ public final class WalksTest {
         hall.begin(5, 5);
         Calls.due('o', hall, "step", 0);
         Calls.due('o', hall, "step", 0);
-        at(hall, 2, 3, false);
+        Calls.walk(hall, 2, 3, false);
         Calls.due('l', hall, "step", 0);
-        at(hall, 2, 3, false);
+        Calls.walk(hall, 2, 3, false);
         hall.begin(5, 5);
         hall.step(0);
         Calls.due('o', hall, "step", 1);
         Calls.due('t', hall, "step", 0);
-        at(hall, 3, 3, false);
+        Calls.walk(hall, 3, 3, false);
         hall.begin(5, 4);
         hall.step(0);
         hall.step(1);
         Calls.due('o', hall, "step", 0);
-        at(hall, 1, 4, false);
+        Calls.walk(hall, 1, 4, false);
         hall.issue(2, 2, 20);
         hall.begin(6, 0);
         Calls.due('o', hall, "step", 1);
@@ -106,7 +100,7 @@ public final class WalksTest {
         Calls.due('o', hall, "step", 1);
         hall.begin(6, 2);
         Calls.due('r', hall, "step", 1);
-        at(hall, 6, 1, false);
+        Calls.walk(hall, 6, 1, false);
         excludedNames();
     }
 
@@ -120,7 +114,7 @@ public final class WalksTest {
         hall.begin(2, 0);
         Calls.due('o', hall, "step", 0);
         Calls.due('n', hall, "step", 0);
-        at(hall, 1, 2, false);
+        Calls.walk(hall, 1, 2, false);
         hall.begin(3, 0);
         Calls.due('o', hall, "step", 0);
         Calls.due('o', hall, "step", 0);
@@ -157,7 +151,7 @@ public final class WalksTest {
         hall.step(0);
         hall.step(0);
         Calls.due('t', hall, "step", 1);
-        at(hall, 2, 3, false);
+        Calls.walk(hall, 2, 3, false);
     }
 
     private static void lengthOfAWalk() {
@@ -172,13 +166,13 @@ public final class WalksTest {
             Calls.due('o', hall, "step", 0);
             Calls.due(walked, hall, "walked");
         }
-        at(hall, 0, 7, true);
+        Calls.walk(hall, 0, 7, true);
         hall.begin(7, 0);
         for (int walked = 2; walked <= 7; walked++) {
             Calls.due('o', hall, "step", 0);
         }
         Calls.due('l', hall, "step", 0);
-        at(hall, 1, 7, false);
+        Calls.walk(hall, 1, 7, false);
     }
 
     private static void twice() {
@@ -192,19 +186,19 @@ public final class WalksTest {
         Calls.due('o', hall, "step", 0);
         Calls.due('l', hall, "step", 1);
         Calls.due('o', hall, "step", 0);
-        at(hall, 1, 3, false);
+        Calls.walk(hall, 1, 3, false);
         Calls.due('l', hall, "step", 0);
         hall.begin(2, 0);
         Calls.due('o', hall, "step", 1);
-        at(hall, 3, 2, false);
+        Calls.walk(hall, 3, 2, false);
         Calls.due('x', hall, "step", 1);
         Calls.due('o', hall, "step", 0);
-        at(hall, 0, 3, false);
+        Calls.walk(hall, 0, 3, false);
         Calls.due('x', hall, "step", 0);
         hall.revoke(2);
         hall.publish(1);
         Calls.due('x', hall, "step", 0);
-        at(hall, 0, 3, false);
+        Calls.walk(hall, 0, 3, false);
     }
 
     private static void knownAtTheStep() {
@@ -221,18 +215,18 @@ public final class WalksTest {
         // It took effect on day 2, after the walk began and before the walk's day.
         Calls.due('r', hall, "step", 0);
         Calls.due(1, hall, "publish", 1);
-        at(hall, 2, 1, false);
+        Calls.walk(hall, 2, 1, false);
         hall.begin(2, 1);
         Calls.due('o', hall, "step", 0);
         // A certificate that came after the walk began is a candidate, too.
         hall.makeRoot(2, 1, 5);
         hall.cross(3, 0, 99, 5);
         Calls.due('o', hall, "step", 0);
-        at(hall, 0, 3, false);
+        Calls.walk(hall, 0, 3, false);
         Calls.due('t', hall, "step", 0);
         hall.begin(0, 2);
         Calls.due('o', hall, "step", 0);
-        at(hall, 4, 2, false);
+        Calls.walk(hall, 4, 2, false);
     }
 
     private static void through() {
@@ -241,15 +235,15 @@ public final class WalksTest {
         hall.issueAuthority(0, 1, 9, 5);
         hall.trust(0, true);
         hall.begin(0, 0);
-        at(hall, 0, 1, true);
+        Calls.walk(hall, 0, 1, true);
         hall.begin(1, 0);
-        at(hall, 1, 1, false);
+        Calls.walk(hall, 1, 1, false);
         hall.step(0);
-        at(hall, 0, 2, true);
+        Calls.walk(hall, 0, 2, true);
         hall.trust(0, false);
-        at(hall, 0, 2, false);
+        Calls.walk(hall, 0, 2, false);
         hall.trust(0, true);
         hall.pass(999);
-        at(hall, 0, 2, true);
+        Calls.walk(hall, 0, 2, true);
     }
 }
